@@ -1,15 +1,5 @@
 /** Each promise of the document by itself: ordinary inputs, edges, wrong inputs. */
-public final class PromisesTest {
-    private static final int NONE = ClassRunner.NONE;
-    private static final int FULL = ClassRunner.FULL;
-    private static final int OUTSIDE = ClassRunner.OUTSIDE;
-    private static final int LEAF = 0, TWICE = 1, THRICE = 2, SHARE = 3, LINKED = 4, THROWS = 5, FIRST = 6, SUM = 7;
-    private static final int INTS = 0, LONGS = 1, THINGS = 2, LEAVES = 3;
-    private static final int LOW = Integer.MIN_VALUE, HIGH = Integer.MAX_VALUE;
-
-    private static String promise = "";
-    private static ClassRunner x = new ClassRunner();
-
+public final class PromisesTest extends Cases {
     public static void main(String[] args) {
         newObject();
         thing();
@@ -40,31 +30,6 @@ public final class PromisesTest {
         keep();
         things();
         Due.end();
-    }
-
-    private static void start(String name, int... classes) {
-        promise = name;
-        x = new ClassRunner();
-        for (int cls : classes) {
-            x.thing(cls, 0);
-        }
-    }
-
-    private static void due(String call, long got, long want) {
-        Due.due(promise + ": " + call, got, want);
-    }
-
-    private static void done(String call, long got, long want) {
-        told(call, got, want, 0);
-    }
-
-    private static void told(String call, long got, long want, int outcome) {
-        due(call, got, want);
-        due("outcome of " + call, x.outcome(), outcome);
-    }
-
-    private static void outside(String call, long got) {
-        due(call, got, OUTSIDE);
     }
 
     private static void newObject() {
@@ -500,19 +465,6 @@ public final class PromisesTest {
         outside("set of -1", x.set(-1, 0, 0));
         due("outcome", x.outcome(), 3);
         done("NOTHING", x.set(0, 0, NONE), 2);
-    }
-
-    private static void fill(int t, int n) {
-        x.hold(t, INTS, n);
-        for (int k = 0; k < n; k++) {
-            x.lay(t, k, k + 1);
-        }
-    }
-
-    private static void items(String what, int t, int... want) {
-        for (int k = 0; k < want.length; k++) {
-            due(what + ", item " + k, x.at(t, k), want[k]);
-        }
     }
 
     private static void moveOfOneSort() {
